@@ -569,12 +569,12 @@ public final class TemperIsles {
         Sheet row = sheets[k];
         int whole = 0;
         int found = 0;
-        while (whole < n && found == 0) {
-            int cell = f + 3 * whole;
+        for (int t = 0; t < n && found == 0; t++) {
+            int cell = f + 3 * t;
             found = row.faultInThree(lane, cell);
             if (found == 0) {
                 if (!isGrudge(row.cells[cell], row.cells[cell + 1], row.cells[cell + 2])) {
-                    return -20 - whole;
+                    return -20 - t;
                 }
                 whole++;
             }

@@ -119,11 +119,13 @@ public final class ModelTest {
         private final Model model;
         private final List<Call> waiting = new ArrayList<>();
         private final boolean hasty;
+        private final boolean wild;
 
         Caller(Random random, Model model) {
             this.random = random;
             this.model = model;
             this.hasty = random.nextInt(10) == 0;
+            this.wild = random.nextInt(20) == 0;
             feedText();
         }
 
@@ -157,7 +159,7 @@ public final class ModelTest {
         }
 
         private int upTo(int most) {
-            int dice = random.nextInt(60);
+            int dice = random.nextInt(wild ? 6 : 60);
             return dice == 0 ? edge() : dice == 1 ? most + 1 : dice == 2 ? -1 : random.nextInt(Math.max(0, most) + 1);
         }
 

@@ -230,6 +230,10 @@ public final class PromiseTest {
 
         faultAt("plane 1;", 2, 0);
         faultAt("plains 1;", 2, 0);
+        faultAt("glain 1;", 2, 0);
+        faultAt("bond 1;", 2, 0);
+        faultAt("hope 0 1 1;", 2, 0);
+        faultAt("feasx 1;", 2, 0);
         faultAt("plai 1;", 2, 0);
         faultAt("plainproud 1;", 2, 0);
         faultAt("  ;", 2, 2);
@@ -608,6 +612,9 @@ public final class PromiseTest {
         due("match(1, 1)", alike.match(1, 1), 7);
         TemperIsles last = told("plain 51;plain 50;plain 40;cross 2 1 1;feast 6;");
         due("match(11, 0)", last.match(11, 0), 2);
+        TemperIsles upper = told("plain 51;plain 50;plain 52;cross 2 1 1;feast 6;");
+        due("match(10, 0)", upper.match(10, 0), 12);
+        due("match(10, 1)", upper.match(10, 1), 10);
         for (int n = 0; n < 6; n++) {
             alike.wed(1, 2, 30);
         }
@@ -628,6 +635,8 @@ public final class PromiseTest {
         due("wed(0, 2, 5)", x.wed(0, 2, 5), 3);
         due("fray(0)", x.fray(0), NONE);
         due("fray(1)", x.fray(1), NONE);
+        x = told("plain 60;plain 62;plain 65;cross 0 1 1;cross 1 2 1;rope 0 2 5;rope 1 2 30;feast 6;");
+        due("fray(0)", x.fray(0), 0);
         due("no ropes: fray(0)", told("plain 4;").fray(0), NONE);
 
         promise = "promise 23";
@@ -687,6 +696,7 @@ public final class PromiseTest {
         due("slack(0, 1, 3)", x.slack(0, 1, 3), 3);
         due("slack(0, 1, 2)", x.slack(0, 1, 2), 2);
         due("slack(0, 1, 1)", x.slack(0, 1, 1), NONE);
+        due("slack(0, 1, 0)", x.slack(0, 1, 0), NONE);
         due("slack(0, 0, 2)", x.slack(0, 0, 2), 30);
         due("slack(0, 60, 99)", x.slack(0, 60, 99), 30);
         due("slack(1, 1, 5)", x.slack(1, 1, 5), BAD);
@@ -696,6 +706,8 @@ public final class PromiseTest {
         due("slack(0, 1, 100)", x.slack(0, 1, 100), BAD);
         due("slack(0, 1, -1)", x.slack(0, 1, -1), BAD);
         due("rope(0, 2)", x.rope(0, 2), 4);
+        x = told("plain 10;plain 11;rope 0 1 4;cross 0 1 3;feast 6;");
+        due("slack(0, 1, 1)", x.slack(0, 1, 1), 1);
     }
 
     private static void storms() {
@@ -706,6 +718,8 @@ public final class PromiseTest {
             due("luck(" + row[0] + ", " + row[1] + ", " + row[2] + ", 0)", x.luck((int) row[0], (int) row[1], (int) row[2], 0), row[3]);
             due("luck(" + row[0] + ", " + row[1] + ", " + row[2] + ", 1)", x.luck((int) row[0], (int) row[1], (int) row[2], 1), row[4]);
         }
+        due("no isles: luck(5, 8, 0, 0)", new TemperIsles().luck(5, 8, 0, 0), 1);
+        due("no isles: luck(5, 8, 0, 1)", new TemperIsles().luck(5, 8, 0, 1), 1);
         due("luck(-1, 1, 1, 0)", x.luck(-1, 1, 1, 0), BAD);
         due("luck(11, 1, 1, 0)", x.luck(11, 1, 1, 0), BAD);
         due("luck(1, -1, 1, 0)", x.luck(1, -1, 1, 0), BAD);
@@ -840,6 +854,10 @@ public final class PromiseTest {
         due("ask(0, 0)", x.ask(0, 0), NONE);
         x = told("plain 40;plain 50;cross 1 0 3;feast 6;");
         due("ask(1, 0)", x.ask(1, 0), 11);
+        // Its rope is too long till the third feast (on day 18): only then may it drift, and a fond one does not.
+        x = told("fond 1;fond 9;cross 1 0 1;rope 1 0 3;feast 4;");
+        due("ask(1, 0)", x.ask(1, 0), 201);
+        due("ask(1, 1)", x.ask(1, 1), 3);
     }
 
     private static void seeds() {
@@ -847,6 +865,10 @@ public final class PromiseTest {
         TemperIsles x = told("plain 10;plain 20;plain 30;feast 6;");
         due("drift(1, 1, 0)", x.drift(1, 1, 0), 23);
         due("drift(1, 2, 0)", x.drift(1, 2, 0), 26);
+        due("drift(1, 3, 0)", x.drift(1, 3, 0), 31);
+        due("drift(1, 4, 0)", x.drift(1, 4, 0), 36);
+        due("drift(1, 5, 0)", x.drift(1, 5, 0), 41);
+        due("drift(1, 6, 0)", x.drift(1, 6, 0), 46);
         due("drift(1, 2, 1)", x.drift(1, 2, 1), 0);
         due("drift(0, 1, 0)", x.drift(0, 1, 0), 20);
         due("cross(2, 1)", x.cross(2, 1), 0);
@@ -986,6 +1008,10 @@ public final class PromiseTest {
         due("torn()", x.torn(), 2);
         due("read(0, 0, LEAST, 13)", x.read(0, 0, LEAST, 13), 0);
         due("read(0, 0, 0, 0)", x.read(0, 0, 0, 0), 0);
+        due("torn()", x.torn(), 0);
+        due("read(0, 1, 0, 0)", x.read(0, 1, 0, 0), 0);
+        due("torn()", x.torn(), 0);
+        due("read(1, 0, 0, 0)", x.read(1, 0, 0, 0), 0);
         due("torn()", x.torn(), 0);
         due("read(0, 0, 8, 1)", x.read(0, 0, 8, 1), 0);
         due("torn()", x.torn(), 2);
