@@ -514,6 +514,31 @@ public final class EdgeTest {
         });
         edge("DAY is 1 more.", () -> new Run("plain 1;plain 9;").due(0, "days", 1).due(1, "rule", 2).due(0, "days", 1).due(2, "rule", 2)
             .due(0, "days", 30).due(32, "rule", 2).due(0, "days", 0).due(32, "rule", 2));
+        edge("BY DAYS: as it would be from now on.", () -> {
+            // What only would be changes nothing, and goes on where DAY itself may not.
+            Supplier<Run> late = () -> busy().times(33, "days", 30).due(0, "days", 0).due(992, "rule", 2);
+            for (Supplier<Run> made : List.<Supplier<Run>>of(EdgeTest::busy, late)) {
+                Run x = made.get();
+                x.call("runs", 60, 0);
+                x.call("ahead", 0, 60);
+                x.call("within", 0);
+                x.call("match", 9, 0);
+                x.call("fray", 0);
+                x.call("soothe", 0);
+                x.call("holy", 60, 0);
+                x.call("kind", 0, 60, 0);
+                x.call("slack", 0, 60, 0);
+                x.call("luck", 5, 8, 9, 0);
+                x.call("mean", 5, 8, 0);
+                x.call("kinds", 0);
+                x.call("sulks", 0, 1);
+                x.call("ask", 0, 0);
+                x.call("drift", 5, 60, 0);
+                hold(all(x).equals(all(made.get())), "what would be has come to be");
+            }
+            Run x = new Run("plain 10;plain 90;feast 6;").due(0, "days", 5).due(80, "runs", 1, 0).due(78, "runs", 2, 0).due(0, "days", 1).due(78, "runs", 1, 0);
+            x.due(0, "days", 1).due(78, "runs", 6, 0).due(76, "runs", 7, 0);
+        });
         edge("SEEN (6): behind n DAYS (0 to 20) from now on an ISLE is AT a FATHOM.", () -> {
             Run x = new Run("plain 50;plain 40;cross 0 1 3;feast 6;");
             x.due(1, "see", 1, 0, 53).due(1, "kinds", 0).due(0, "days", 1).due(0, "kinds", 0).due(1, "forget", 0);
@@ -700,7 +725,10 @@ public final class EdgeTest {
             fault("plain 1:", 1, 7);
         });
         edge("2 a TOKEN that can not stand there (a NAME that begins no line; or the end: the length).", () -> {
-            fault("p 1;", 2, 0);
+            for (String name : new String[] {"p", "lain", "qlain", "qroud", "gond", "vidow", "dross", "sope", "geast", "plaim", "plainplain"}) {
+                fault(name + " 1;", 2, 0);
+                fault("plain 1; " + name, 2, 9);
+            }
             fault("plainn 1;", 2, 0);
             fault("plain 1;feasts 1;", 2, 8);
             fault("plain plain;", 2, 6);
@@ -1089,6 +1117,7 @@ public final class EdgeTest {
                 x.due(1, "sulk", 0, j, 0).due(25, "runs", 30, 0).due(0, "back", 0);
             }
             new Run("plain 10;plain 12;plain 11;plain 51;plain 52;cross 4 3 1;feast 6;").due(43, "soothe", 0);
+            new Run("plain 50;plain 48;cross 1 0 1;feast 6;").due(10, "soothe", 0).due(1, "soothe", 1);
         });
         edge("BAD; NONE: by none.", () -> {
             ends(EdgeTest::busy, 0, 1, "soothe", HERE);
@@ -1110,6 +1139,8 @@ public final class EdgeTest {
             hold(x.call("runs", 30, 1) > 0, "there are bumps with both");
             x.due(0, "fray", 0).due(0, "fray", 1);
         }
+        // The last of all may be the one.
+        new Run("plain 60;plain 61;plain 65;cross 0 1 1;cross 1 2 1;rope 1 2 30;rope 0 2 5;feast 6;").due(1, "fray", 0).due(0, "fray", 1);
         // BUMPS that there were are not counted; behind the one that goes the others stay as they are.
         Run y = new Run("plain 60;plain 61;plain 65;plain 90;plain 93;cross 0 1 1;cross 1 2 1;cross 3 0 1;rope 0 2 5;rope 2 3 25;rope 4 2 30;feast 6;");
         y.due(1, "days", 1).due(1, "rule", 4).call("keep", 0);
@@ -1321,6 +1352,9 @@ public final class EdgeTest {
             Run x = new Run("plain 10;plain 20;plain 30;feast 6;").due(23, "drift", 1, 1, 0).due(23, "drift", 1, 1, 0).at(10, 20, 30).due(0, "rule", 2).due(0, "count", 5);
             x.times(33, "days", 30).due(0, "days", 9).due(999, "rule", 2);
             hold(x.call("drift", 1, 60, 0) >= 0, "by itself it is not FULL");
+            // BUMPS that there were are not counted.
+            byHand("plain 11;plain 10;plain 50;plain 0;cross 0 2 3;cross 1 3 3;feast 6;", 1, 1);
+            byHand("plain 11;plain 10;plain 50;plain 0;cross 0 2 3;cross 1 3 3;feast 6;", 1, 60);
         });
         edge("ahead of each the seed becomes seed times 1103515245 and 12345; bits 16 to 30 of it are got", () -> {
             for (int seed : new int[] {0, 1, -1, LEAST, LEAST + 1, MOST, MOST - 1, 1 << 16, 1 << 30, 123456789, -987654321}) {
@@ -1349,7 +1383,7 @@ public final class EdgeTest {
         });
     }
 
-    /** What drift() tells, told once more by sulk() and days(). */
+    /** What drift() tells behind a day, told once more by sulk() and days(). */
     private static void byHand(String text, int seed, int n) {
         Run x = new Run(text);
         x.call("days", 1);
@@ -1394,6 +1428,9 @@ public final class EdgeTest {
             // The two are apart, and one may be gone back to again and again.
             Run y = new Run("plain 7;").due(0, "days", 5).due(0, "keep", 0).due(7, "alter", 0, 1, 9).due(0, "days", 30).due(0, "keep", 1);
             y.due(5, "back", 0).at(7).due(35, "back", 1).at(9).due(5, "back", 0).at(7).due(7, "alter", 0, 1, 3).due(5, "back", 0).at(7).due(2, "count", 1);
+            // THE TAPE, the SHEETS and the FAULTS are of no image.
+            busy().due(2, "back", 1).due(8, "count", 2).due(7, "count", 3).due(3, "torn").due(-21, "read", 0, 0, 0, 2).due(1, "text").at(1);
+            new Run().due(0, "keep", 0).put("A").due(-10, "text").due(0, "back", 0).due(1, "fault");
             new Run().due(0, "keep", 1).due(0, "days", 9).due(0, "back", 1).due(0, "rule", 2).due(0, "rule", 0);
         });
         edge("STATE: there is none.", () -> {
@@ -1409,8 +1446,9 @@ public final class EdgeTest {
         Run x = new Run("plain 50;plain 49;plain 40;cross 0 2 3;cross 2 0 1;cross 1 0 1;rope 0 2 30;rope 2 1 20;feast 6;");
         x.call("days", 1);
         x.call("sulk", 0, 1, 2);
-        x.call("see", 1, 0, 60);
-        x.call("see", 20, 1, 52);
+        // Both are as it will be, so that the kinds by which they are tell the days, the isles and the fathoms.
+        x.due(1, "see", 1, 0, (int) x.call("ahead", 0, 1)).due(2, "see", 20, 2, (int) x.call("ahead", 2, 20));
+        hold(x.call("kinds", 0) > 0 && x.call("kinds", 0) < 15, "some kinds are left");
         List<Long> before = new ArrayList<>();
         x.due(0, "keep", k);
         show(x, before);
