@@ -210,8 +210,14 @@ public final class EdgeTest {
 
     /** A number of a call is refused below its least and above its most, and is taken at both. */
     private static void ends(Supplier<Run> made, int least, int most, String name, int... args) {
-        for (int v : new int[] {least - 1, most + 1, LEAST, MOST, least + (1 << 8), least + (1 << 16), -most - 2}) {
-            refused(made, BAD, name, with(v, args));
+        int had = wrong;
+        refused(made, BAD, name, with(least - 1, args));
+        refused(made, BAD, name, with(most + 1, args));
+        // Where a neighbour is taken already, MOST days or the like might never come to an end.
+        for (int v : new int[] {LEAST, MOST, least + (1 << 8), least + (1 << 16), -most - 2}) {
+            if (wrong == had) {
+                refused(made, BAD, name, with(v, args));
+            }
         }
         for (int v : new int[] {least, most}) {
             long got = made.get().call(name, with(v, args));
@@ -1172,6 +1178,8 @@ public final class EdgeTest {
             x.due(3, "holy", 1, 0).due(3, "holy", 4, 0).due(0, "holy", 5, 0).due(0, "holy", 7, 0).due(78, "holy", 7, 1).due(3, "rule", 3);
             new Run("plain 0;plain 99;").due(0, "days", 0).due(99, "holy", 0, 1).due(0, "holy", 0, 0);
             new Run("plain 5;").due(0, "holy", 60, 0).due(0, "holy", 60, 1);
+            // Without any feast the last one would be held at 53, 6 from the second; but there is no such FEAST.
+            new Run("plain 57;proud 59;proud 55;fond 54;cross 3 0 2;rope 2 3 2;").due(0, "holy", 9, 0).due(7, "holy", 9, 1);
             Run last = new Run("plain 10;plain 90;feast 3;").due(0, "days", 6).due(6, "holy", 1, 0).due(76, "holy", 1, 1);
             last.due(0, "days", 1).due(0, "holy", 1, 0);
         });
