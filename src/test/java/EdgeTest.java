@@ -544,6 +544,7 @@ public final class EdgeTest {
             }
             Run x = new Run("plain 10;plain 90;feast 6;").due(0, "days", 5).due(80, "runs", 1, 0).due(78, "runs", 2, 0).due(0, "days", 1).due(78, "runs", 1, 0);
             x.due(0, "days", 1).due(78, "runs", 6, 0).due(76, "runs", 7, 0);
+            crowdRunsAsItWould();
         });
         edge("SEEN (6): behind n DAYS (0 to 20) from now on an ISLE is AT a FATHOM.", () -> {
             Run x = new Run("plain 50;plain 40;cross 0 1 3;feast 6;");
@@ -785,6 +786,14 @@ public final class EdgeTest {
         edge("with whom one is told to be CROSS already (with whom).", () -> {
             fault("cross 0 1 0;cross 0 1 0;", 4, 20);
             fault("cross 3 4 1;cross 4 3 1;cross 3 4 1;", 4, 32);
+            for (int p = 0; p < 25; p++) {
+                for (int q = 0; q < 25; q++) {
+                    if (p % 6 != 0 && q % 6 != 0) {
+                        // Who with whom is told already, or else only the isles are not there.
+                        fault("cross " + p / 5 + " " + p % 5 + " 0;cross " + q / 5 + " " + q % 5 + " 0;", p == q ? 4 : 6, p == q ? 20 : 24);
+                    }
+                }
+            }
             String five = "plain 1;plain 2;plain 3;plain 4;plain 5;";
             new Run(five + "cross 0 1 1;cross 1 0 2;cross 0 2 3;cross 2 1 1;cross 2 0 2;").due(1, "cross", 0, 1).due(2, "cross", 1, 0).due(9, "count", 5);
             new Run("plain 1;plain 2;cross 0 1 1;").put("plain 1;plain 2;cross 0 1 2;").due(3, "text").due(2, "cross", 0, 1);
@@ -1077,6 +1086,9 @@ public final class EdgeTest {
             // Of 30 days 4 are feasts: 2 and 26 and less 8 is 20; a rope of 20 does not better that, one of 19 does.
             Run x = new Run("plain 50;plain 52;cross 0 1 1;feast 6;").due(19, "runs", 29, 0).due(20, "runs", 30, 0).due(21, "runs", 31, 0);
             x.due(NONE, "match", 30, 0).due(NONE, "match", 20, 0).due(NONE, "match", 20, 1).due(1, "match", 19, 0).due(19, "match", 19, 1);
+            // The feast on day 30 is too late for both, that on day 29 is not.
+            new Run("plain 50;plain 52;cross 0 1 1;feast 2;").due(20, "runs", 30, 0).due(1, "match", 19, 0).due(19, "match", 19, 1);
+            new Run("plain 50;plain 52;cross 0 1 1;feast 1;").due(17, "runs", 30, 0).due(1, "match", 16, 0).due(14, "match", 16, 1);
         });
         edge("10 times the lesser and the greater, of several the least (what 0), that SPREAD (1).", () -> {
             ends(EdgeTest::busy, 0, 1, "match", 9, HERE);
@@ -1099,6 +1111,9 @@ public final class EdgeTest {
             // The fourth isle bumps on each of 26 days that are no feasts; the second one too, while rope 1 holds the first.
             Run x = new Run("plain 60;plain 62;plain 65;plain 90;plain 91;cross 0 1 1;cross 1 2 1;cross 3 0 1;rope 1 2 30;rope 0 2 5;rope 3 4 9;feast 6;");
             x.due(1, "fray", 0).due(26, "fray", 1).due(3, "rule", 1);
+            // One bump fewer is fewer.
+            Run y = new Run("fond 48;fond 58;fond 60;cross 1 2 2;rope 1 0 6;").due(19, "runs", 30, 1).due(0, "fray", 0).due(18, "fray", 1);
+            y.due(1, "loose", 0).due(18, "runs", 30, 1).due(NONE, "fray", 0);
         });
         edge("of several the first (what 0), how many (1).", EdgeTest::frayOfSeveral);
         edge("BAD; NONE: none.", () -> {
@@ -1113,6 +1128,11 @@ public final class EdgeTest {
             // Soothed, the two come in by 2 on each feast of 30 days: on 1, 8, 15, 22, 29, or on 2, 9, 16, 23 (and 30, too late).
             new Run("plain 50;plain 90;cross 0 1 1;feast 1;").due(1, "soothe", 0).due(30, "soothe", 1);
             new Run("plain 50;plain 90;cross 0 1 1;feast 2;").due(1, "soothe", 0).due(32, "soothe", 1);
+            // A fond one that is cross by 1 does not drift: soothed it is as far, whatever it was a day before or behind.
+            new Run("fond 47;fond 63;cross 0 1 1;feast 1;").due(8, "runs", 29, 0).due(6, "runs", 30, 0).due(NONE, "soothe", 0);
+            new Run("fond 47;fond 63;cross 0 1 1;feast 2;").due(8, "runs", 30, 0).due(6, "runs", 31, 0).due(NONE, "soothe", 0);
+            // One fathom less is less, though a day later it would be none.
+            new Run("fond 50;fond 53;fond 57;cross 1 0 2;feast 2;").due(3, "runs", 30, 0).due(2, "runs", 31, 0).due(10, "soothe", 0).due(2, "soothe", 1);
             // Held by its rope, it is as far whether it is cross or not.
             new Run("plain 50;plain 51;rope 0 1 1;cross 0 1 3;").due(NONE, "soothe", 0).due(NONE, "soothe", 1);
         });
@@ -1192,6 +1212,12 @@ public final class EdgeTest {
             Run x = new Run("widow 50;plain 40;cross 0 1 3;feast 6;").due(0, "kind", 0, 0, 0).due(10, "kind", 0, 0, 1).due(2, "kind", 0, 1, 0).due(11, "kind", 0, 1, 1);
             x.due(0, "kind", 1, 60, 0).due(3, "isle", 0, 0);
             new Run("fond 0;plain 99;").due(99, "kind", 0, 0, 1).due(0, "kind", 0, 0, 0);
+            // The last kind may be the one: the others are farther by all of them.
+            Run last = new Run("proud 52;plain 60;widow 46;proud 62;cross 0 2 3;cross 2 3 2;feast 1;").due(3, "kind", 0, 9, 0).due(33, "kind", 0, 9, 1);
+            for (int kind = 0; kind < 4; kind++) {
+                last.call("alter", 0, 0, kind);
+                hold(kind == 3 ? last.call("runs", 9, 0) == 33 : last.call("runs", 9, 0) > 33, "runs(9, 0) of kind " + kind);
+            }
             // It is not one of the outermost: all kinds are alike, and plain is the first.
             new Run("widow 10;plain 30;plain 31;plain 0;cross 0 3 3;feast 6;").due(0, "kind", 0, 1, 0).due(31, "kind", 0, 1, 1);
             new Run("plain 5;").due(0, "kind", 0, 60, 0).due(0, "kind", 0, 60, 1);
@@ -1230,6 +1256,9 @@ public final class EdgeTest {
             x.due(19, "luck", 1, 2, 3, 0).due(100, "luck", 1, 2, 3, 1).due(99, "luck", 9, 2, 3, 0).due(100, "luck", 9, 2, 3, 1);
             // Eight days: on the first the two stay, on six they drift off if there is no storm, on the last is a feast.
             Run y = new Run("plain 50;plain 51;cross 0 1 1;");
+            // The fifth of five alone drifts, by each day without a storm.
+            Run five = new Run("plain 10;plain 20;plain 30;plain 40;plain 50;cross 4 0 1;feast 6;");
+            five.due(1, "luck", 5, 2, 40, 0).due(4, "luck", 5, 2, 40, 1).due(3, "luck", 5, 2, 41, 0).due(4, "luck", 5, 2, 41, 1).due(1, "luck", 5, 2, 42, 0);
             y.due(11431, "luck", 1, 8, 1, 0).due(10000000, "luck", 1, 8, 1, 1).due(5767119, "luck", 9, 8, 1, 0).due(10000000, "luck", 9, 8, 1, 1);
         });
         edge("that SPREAD behind them is w (0 to 99) or less: 0, 1. BAD.", () -> {
@@ -1251,6 +1280,7 @@ public final class EdgeTest {
             for (int n = 0; n <= 8; n++) {
                 x.due(x.call("runs", n, 0), "mean", 0, n, 0).due(1, "mean", 0, n, 1).due(2, "mean", 10, n, 0).due(1, "mean", 10, n, 1);
             }
+            new Run("plain 10;plain 20;plain 30;plain 40;plain 50;cross 4 0 1;feast 6;").due(41, "mean", 5, 2, 0).due(1, "mean", 5, 2, 1).due(43, "mean", 5, 6, 0);
             new Run("plain 50;plain 51;cross 0 1 1;").due(5750063, "mean", 1, 8, 0).due(1250000, "mean", 1, 8, 1);
             new Run("plain 0;plain 99;").due(99, "mean", 5, 0, 0).due(98, "mean", 5, 1, 0).due(1, "mean", 5, 1, 1);
             new Run("plain 5;").due(0, "mean", 5, 8, 0).due(1, "mean", 5, 8, 1);
@@ -1424,6 +1454,8 @@ public final class EdgeTest {
             new Run().due(0, "keep", 0).due(0, "keep", 1).due(1, "keep", 1).due(0, "back", 0).due(0, "rule", 0);
             imageHoldsAll(0);
             imageHoldsAll(1);
+            imageHoldsTheMost(0);
+            imageHoldsTheMost(1);
         });
         section = "Promise 36";
         edge("All is as IMAGE k: DAY. BAD", () -> {
@@ -1448,6 +1480,54 @@ public final class EdgeTest {
             x.call("end", 0);
             x.put("A").due(-10, "text").due(2, "back", 1).due(0, "text").due(STATE, "back", 1);
         });
+    }
+
+    /** Five isles, six ropes, of which the last holds the last isle. */
+    private static Run crowd() {
+        return new Run("fond 1;plain 9;widow 20;proud 30;proud 40;cross 4 0 3;cross 3 2 1;cross 0 4 2;cross 2 4 1;"
+            + "rope 0 1 30;rope 1 2 29;rope 2 3 28;rope 3 1 30;rope 4 2 30;feast 6;").due(6, "wed", 3, 4, 13);
+    }
+
+    /** What would be is what comes to be, with as many isles and ropes as there may be. */
+    private static void crowdRunsAsItWould() {
+        for (int n : new int[] {1, 2, 6, 7, 8, 30}) {
+            Run x = crowd();
+            long[] then = new long[5];
+            for (int i = 0; i < 5; i++) {
+                then[i] = x.call("ahead", i, n);
+            }
+            long spread = x.call("runs", n, 0);
+            long bumps = x.call("runs", n, 1);
+            x.due(bumps, "days", n).due(spread, "rule", 5).due(bumps, "rule", 4);
+            for (int i = 0; i < 5; i++) {
+                x.due(then[i], "isle", i, 1);
+            }
+        }
+        // The last one would drift by 6; the last rope lets it go only as far as 13 from the fourth, which has come to 32.
+        crowd().due(45, "ahead", 4, 1).due(6, "loose", 5).due(46, "ahead", 4, 1);
+    }
+
+    private static void imageHoldsTheMost(int k) {
+        Run x = crowd();
+        x.call("days", 1);
+        for (int i = 0; i < 5; i++) {
+            x.due(i + 1, "see", 0, i, (int) x.call("isle", i, 1));
+        }
+        x.due(6, "see", 1, 3, (int) x.call("ahead", 3, 1)).due(FULL, "see", 1, 3, 0);
+        hold(x.call("kinds", 3) > 0 && x.call("kinds", 3) < 15, "some kinds are left");
+        List<Long> before = new ArrayList<>();
+        x.due(0, "keep", k);
+        show(x, before);
+        x.due(6, "forget", 0).times(6, "see", 2, 0, 99).due(6, "loose", 0).times(6, "wed", 1, 0, 1);
+        for (int i = 0; i < 5; i++) {
+            x.call("alter", i, 0, 3 - (int) x.call("isle", i, 0));
+            x.call("alter", i, 1, 90 + i);
+            x.call("sulk", i, (i + 1) % 5, 3);
+        }
+        x.due(1, "back", k);
+        List<Long> after = new ArrayList<>();
+        show(x, after);
+        alike(after, before, "all behind back()");
     }
 
     private static void imageHoldsAll(int k) {
