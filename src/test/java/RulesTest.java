@@ -61,6 +61,20 @@ public final class RulesTest {
         constants(type);
     }
 
+    /** The document's own block of the face tells the same, with the same constants. */
+    private static void faceOfDocument() throws Exception {
+        String document = Files.readString(Path.of("../shared/DOC.md"));
+        Set<String> told = new TreeSet<>();
+        Matcher method = Pattern.compile("(?m)^    public (int|long) (\\w+)\\((.*)\\);$").matcher(document);
+        while (method.find()) {
+            told.add(method.group(2) + "(" + method.group(3).replaceAll("int \\w+", "int").replace(" ", "") + ")" + method.group(1));
+        }
+        hold(told.equals(new TreeSet<>(List.of(FACE.split(" ")))), "the face is the document's: " + told);
+        String constants = "    public static final int BAD = -1, STATE = -2, FULL = -3, NONE = -4;";
+        hold(document.contains(constants), "the constants are the document's");
+        hold(TemperIsles.BAD == -1 && TemperIsles.STATE == -2 && TemperIsles.FULL == -3 && TemperIsles.NONE == -4, constants);
+    }
+
     private static void hidden(Class<?> type, Set<String> names) {
         Set<String> open = Set.of("BAD", "STATE", "FULL", "NONE");
         int found = 0;
@@ -128,6 +142,7 @@ public final class RulesTest {
 
     public static void main(String[] args) throws Exception {
         face();
+        faceOfDocument();
         source();
         System.out.println(wrong == 0 ? "the rules are kept" : wrong + " rules are not kept");
         if (wrong != 0) {
